@@ -1072,10 +1072,17 @@ public final class OverABar {
             measure(way);
             own = value(way);
             for (int c = 0; c < CHANGES; c++) {
-                changed[c] = way.hasChange(c) ? valueWith(way, c) : BAD_NUMBER;
-                if (c % Way.CHANGES_OF_TENTH == Way.CHANGES_OF_TENTH - 1 && c / Way.CHANGES_OF_TENTH < way.tenths) {
-                    measureTenth(way, c / Way.CHANGES_OF_TENTH);
+                changed[c] = BAD_NUMBER;
+            }
+            for (int t = 0; t < way.tenths; t++) {
+                int first = Way.CHANGES_OF_TENTH * t;
+                for (int c = first; c < first + Way.CHANGES_OF_TENTH; c++) {
+                    if (way.hasChange(c)) {
+                        changed[c] = valueWith(way, c);
+                    }
                 }
+                // the latest SMALL CHANGE left it measured as changed
+                measureTenth(way, t);
             }
         }
 

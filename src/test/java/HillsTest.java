@@ -9,6 +9,7 @@ public final class HillsTest {
         better();
         climb();
         around();
+        aroundNeighbours();
         valley();
         best();
         suits();
@@ -96,6 +97,13 @@ public final class HillsTest {
         bench.due(22, "climb(0, 1) of two that are as great", x.climb(0, 1), 1);
         bench.due(22, "Y of the lesser number", x.at(0, 6, 0, 1), 0);
         bench.due(22, "Y of the greater one", x.at(0, 6, 3, 1), 0);
+        Bench.tell(x, "quick 18;");
+        x.way(0, 7, 1);
+        x.put(0, 0, 0, -9, 1);
+        // BENT by 10: X of PART 0 more (0) is the first of four that mend it
+        bench.due(21, "better(0)", x.better(0), 0);
+        bench.due(22, "climb(0, 1) by SMALL CHANGE 0", x.climb(0, 1), 1);
+        bench.due(22, "X", x.at(0, 0, 0, 0), -8);
     }
 
     private static void around() {
@@ -117,6 +125,26 @@ public final class HillsTest {
         bench.due(23, "around(0, 0) at two bounds", x.around(0, 0), 30);
         bench.due(23, "around(0, 1)", x.around(0, 1), 0);
         bench.due(23, "around(0, 2)", x.around(0, 2), 0);
+    }
+
+    /** SMALL CHANGES by which a WAY is too QUICK from a TENTH or to it, or no longer. */
+    private static void aroundNeighbours() {
+        OverABar x = flat();
+        x.put(0, 1, 3, 0, -6);
+        x.put(0, 2, 3, 0, -3);
+        // lesser: twelve of TENTHS 3 and 6, Y of PART 3 more in TENTH 0, less in TENTH 1
+        bench.due(23, "around(0, 0)", x.around(0, 0), 98);
+        bench.due(23, "around(0, 1)", x.around(0, 1), 14);
+        x.put(0, 1, 3, 0, -7);
+        bench.due(23, "it is too QUICK", x.barred(0), 2);
+        bench.due(23, "around(0, 2)", x.around(0, 2), 2);
+        bench.due(23, "around(0, 0)", x.around(0, 0), 110);
+        bench.due(21, "better(0): Y of PART 3 less in TENTH 0", x.better(0), 15);
+        bench.due(20, "worth(0, 30)", x.worth(0, 30), 52);
+        x.put(0, 0, 3, 0, -1);
+        x.put(0, 2, 3, 0, 0);
+        bench.due(21, "better(0): more in TENTH 1", x.better(0), 30);
+        bench.due(20, "worth(0, 47)", x.worth(0, 47), 52);
     }
 
     private static void valley() {
@@ -141,6 +169,14 @@ public final class HillsTest {
         bench.due(24, "the last end is the least", x.valley(0, 2, 0), 51);
         bench.due(24, "the first end is the least", x.valley(2, 0, 0), 51);
         bench.due(24, "X and Y are two numbers", x.valley(0, 2, 1), 2);
+        x.put(2, 3, 1, 0, 0);
+        x.put(2, 0, 0, 1, 0);
+        bench.due(24, "the first number of all", x.valley(0, 2, 1), 1);
+        x.way(3, 8, 1);
+        x.way(4, 8, 1);
+        x.put(4, 7, 3, 0, -1);
+        bench.due(24, "the last number of all", x.valley(3, 4, 1), 1);
+        bench.due(24, "valley of 8 TENTHS", x.valley(3, 4, 0), 52);
         x.way(3, 6, 1);
         bench.due(24, "valley(0, 3, 0)", x.valley(0, 3, 0), -2);
         bench.due(24, "valley(3, 0, 1)", x.valley(3, 0, 1), -2);

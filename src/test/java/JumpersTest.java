@@ -32,6 +32,8 @@ public final class JumpersTest {
         // 22 behind at most, then 2 more, and 5 each year: even in the ninth
         duePays(50, 40, 3, 55, 10);
         duePays(50, 60, 9, 50, -4);
+        duePays(5, 5, 5, 0, -4);
+        duePays(0, 0, 0, 0, -4);
         // 48 behind, then 1 more each year: even in the 49th
         duePays(100, 52, 49, 101, 50);
         duePays(100, 51, 50, 101, -4);
@@ -127,6 +129,8 @@ public final class JumpersTest {
         for (int n : new int[] {0, -1, 21, Integer.MAX_VALUE, Integer.MIN_VALUE}) {
             bench.due(30, "years(" + n + ")", x.years(n), -1);
         }
+        x = ring("", 0, 0, 0, 0, 0, 0, 0, 0, 0, 0, 0, 1);
+        bench.due(30, "years(1) of twelve", x.years(1), 1 + 1024);
         x = ring("", 0, 0, 1, 0, 0, 0);
         bench.due(30, "years(2)", x.years(2), 1 + 2 + 8 + 16);
     }

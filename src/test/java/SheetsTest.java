@@ -54,6 +54,7 @@ public final class SheetsTest {
         x.sheet(0, 1, 64);
         x.film(0, 0, 1, 0, 8, 1);
         for (int t = 0; t < 8; t++) {
+            bench.due(36, "CELLS are 0 anew", x.at(0, t, 0, 0), 0);
             bench.due(36, "CELLS are 0 anew", x.at(0, t, 3, 1), 0);
         }
         bench.due(36, "sheet(1, 0, -1)", x.sheet(1, 0, -1), -14);
@@ -216,7 +217,7 @@ public final class SheetsTest {
         x.way(0, 3, 1);
         x.way(4, 8, 1);
         x.way(5, 2, 1);
-        for (int w : new int[] {2, 2, 4, 2, 0}) {
+        for (int w : new int[] {0, 2, 4, 2, 2}) {
             x.jumper(w);
         }
         x.feed(0);

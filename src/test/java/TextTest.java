@@ -15,6 +15,7 @@ public final class TextTest {
         boundsOfEachLine();
         tokens();
         faults();
+        bytesCutOff();
         textStays();
         fault();
         rule();
@@ -142,6 +143,7 @@ public final class TextTest {
         dueText("rise -5;", -15, 1);
         dueText("rises 5;", -10, 1);
         dueText("ris 5;", -10, 1);
+        dueText("wise 5;", -10, 1);
         dueText("weightbend 0 5;", -10, 1);
         dueText("riserun 5;", -10, 1);
         dueText("weights 0 5;", -10, 1);
@@ -185,6 +187,20 @@ public final class TextTest {
         dueText("bend 0 5;bend 1 5;bend 0 5;", -33, 4);
         dueText("weight 1 5;weight 4 5;", -28, 3);
         dueText("weight 1 5;bend 1 5;weight 0 5;", 3, 0);
+    }
+
+    /** What end() cut off is not read, though it would make a TOKEN longer. */
+    private static void bytesCutOff() {
+        String[] texts = {"riserise", "rise 555", "rise 5;;"};
+        int[] lengths = {4, 7, 7};
+        int[] want = {-14, -17, 1};
+        for (int i = 0; i < texts.length; i++) {
+            OverABar x = new OverABar();
+            x.feed(Bench.words(texts[i])[0]);
+            x.end(lengths[i]);
+            bench.due(4, "text() of '" + texts[i] + "' cut to " + lengths[i], x.text(), want[i]);
+            bench.due(5, "fault()", x.fault(), want[i] < 0 ? 2 : 0);
+        }
     }
 
     private static void textStays() {

@@ -42,6 +42,7 @@ public final class WaysTest {
         bench.due(7, "way(0, 2, 1)", x.way(0, 2, 1), 0);
         bench.due(7, "way(5, 8, 2)", x.way(5, 8, 2), 0);
         x.put(0, 1, 3, 4, 5);
+        x.put(0, 0, 0, 6, 7);
         x.put(5, 7, 3, 4, 5);
         int[][] wrong = {{-1, 2, 1}, {6, 2, 1}, {0, 1, 1}, {0, 9, 1}, {0, -2, 1}, {0, 2, 0}, {0, 2, 3}, {0, 2, -1},
             {Integer.MAX_VALUE, 2, 1}, {0, Integer.MAX_VALUE, 1}, {0, 2, Integer.MIN_VALUE}};
@@ -53,6 +54,7 @@ public final class WaysTest {
         bench.due(7, "of(0, 0)", x.of(0, 0), 3);
         bench.due(7, "of(0, 1)", x.of(0, 1), 2);
         bench.due(7, "at, anew", x.at(0, 1, 3, 1), 0);
+        bench.due(7, "the first X, anew", x.at(0, 0, 0, 0), 0);
         bench.due(7, "way(5, 2, 1)", x.way(5, 2, 1), 8);
         bench.due(7, "way(5, 8, 1)", x.way(5, 8, 1), 2);
         bench.due(7, "at of a TENTH that was there ahead", x.at(5, 7, 3, 0), 0);
@@ -199,8 +201,28 @@ public final class WaysTest {
         x.put(0, 0, 1, 0, 0);
         x.put(0, 1, 0, -1, 0);
         x.put(0, 1, 3, 1, 0);
-        bench.due(14, "one PART of the last TENTH at 0", x.high(0), -4);
+        bench.due(14, "PART 0 of the last TENTH at 0", x.high(0), -4);
+        for (int p = 1; p < 4; p++) {
+            x.way(0, 2, 1);
+            x.put(0, 1, p, -1, 0);
+            x.put(0, 1, p - 1, 1, 0);
+            bench.due(14, "PART " + p + " of the last TENTH at 0", x.high(0), -4);
+            x.way(0, 2, 1);
+            x.put(0, 0, p, 1, 0);
+            x.put(0, 0, p - 1, -1, 0);
+            bench.due(14, "PART " + p + " of TENTH 0 at 0", x.high(0), -4);
+        }
+        x.way(0, 2, 1);
+        x.put(0, 0, 0, 1, 0);
+        x.put(0, 0, 1, -1, 0);
+        bench.due(14, "PART 0 of TENTH 0 at 0", x.high(0), -4);
         bench.due(20, "worth", x.worth(0, -1), -1);
+        x = flat("mark 1;run 2;weight 0 1;weight 1 1;weight 2 1;weight 3 1;", 2);
+        x.put(0, 0, 0, 1, 0);
+        x.put(0, 1, 0, -1, 0);
+        bench.due(14, "TENTH 0 at -1", x.place(0, 0, 0, 0), -1);
+        bench.due(14, "the last TENTH at 1", x.place(0, 1, 0, 0), 1);
+        bench.due(14, "high(0)", x.high(0), 10);
     }
 
     private static void lowest() {
@@ -225,6 +247,8 @@ public final class WaysTest {
         x = flat("near 9;rise 6;fall 1;", 7);
         // 18, 19, 18 up: the first of two
         bench.due(15, "lowest(0), two TENTHS alike", x.lowest(0), 8);
+        bench.due(15, "lowest(0), TENTH 0", flat("mark 1;run 2;", 2).lowest(0), 0);
+        bench.due(15, "lowest(0), the last TENTH", flat("mark 1;run 2;rise 0;", 2).lowest(0), 4);
         bench.due(15, "HIGH is NONE", flat(4).lowest(0), -4);
         bench.due(15, "none ever NEAR", flat("run 20;mark 10;", 2).lowest(0), -4);
         bench.due(15, "below 0", flat("stand 0;rise 0;", 7).lowest(0), -4);
@@ -243,6 +267,10 @@ public final class WaysTest {
         x = flat("near 9;", 7);
         // TENTHS 2 to 4: 42, 52, 58
         bench.due(16, "under(0), the greatest of several TENTHS", x.under(0), 320);
+        // TENTHS 0 and 1: 10, 28; 10, 8
+        bench.due(16, "under(0), TENTH 0 sets HIGH", flat("mark 1;run 2;", 2).under(0), 360);
+        bench.due(16, "under(0), TENTH 0 is the greatest", flat("mark 1;run 2;rise 0;", 2).under(0), 40);
+        bench.due(16, "under(0) of 8 TENTHS", flat(8).under(0), 0);
         bench.due(16, "HIGH is NONE", flat(4).under(0), -1000004);
         bench.due(16, "none ever NEAR", flat("run 20;mark 10;", 2).under(0), -1000004);
         bench.due(16, "under(1)", x.under(1), -1000000);
@@ -278,6 +306,12 @@ public final class WaysTest {
             x.put(0, 2, p, -3, 0);
             x.put(0, 2, p + 1, 0, 2);
             bench.due(18, "BEND " + p + " of -3, 2", x.barred(0), 1);
+            x.way(0, 7, 1);
+            x.put(0, 0, p, 5, 0);
+            bench.due(18, "BEND " + p + " of 5 in TENTH 0", x.barred(0), 1);
+            x.way(0, 7, 1);
+            x.put(0, 6, p, 5, 0);
+            bench.due(18, "BEND " + p + " of 5 in the last TENTH", x.barred(0), 1);
         }
         for (int p = 0; p < 4; p++) {
             OverABar x = flat("bend 0 18;bend 1 18;bend 2 18;pit 2;", 7);
