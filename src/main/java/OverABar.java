@@ -860,8 +860,8 @@ public final class OverABar {
         static final int LAST_PIT = 2;
         private static final int BENT = 1, HASTY = 2, FEET = 3, PIT = 4;
         private static final int CHANGES = Way.CHANGES_OF_TENTH * Way.MOST_TENTHS;
-        /** Above each PLACE: no PART is NEAR in the TENTH. */
-        private static final int NOT_NEAR = 1000000;
+        /** Beyond each PLACE; as leastUp: no PART is NEAR in the TENTH. */
+        private static final int FAR = 1000000;
         private static final int MOST_HIGH = 999;
 
         private final Rules rules;
@@ -915,9 +915,9 @@ public final class OverABar {
             int all = rules.total();
             int acrossBase = baseOf(way, t, Way.X);
             int upBase = baseOf(way, t, Way.Y);
-            leastAcross[t] = acrossBase + all * way.numbers[Way.spot(t, 0)];
-            mostAcross[t] = leastAcross[t];
-            leastUp[t] = NOT_NEAR;
+            leastAcross[t] = FAR;
+            mostAcross[t] = -FAR;
+            leastUp[t] = FAR;
             for (int p = 0; p < PARTS; p++) {
                 int across = acrossBase + all * way.numbers[Way.spot(t, p)];
                 int up = upBase + all * way.numbers[Way.spot(t, p) + 1];
@@ -965,7 +965,7 @@ public final class OverABar {
         /** The TENTH of the lowest PLACE that is NEAR, or -1. */
         int lowestTenth(Way way) {
             int lowest = -1;
-            int least = NOT_NEAR;
+            int least = FAR;
             for (int t = 0; t < way.tenths; t++) {
                 if (leastUp[t] < least) {
                     least = leastUp[t];
@@ -991,9 +991,9 @@ public final class OverABar {
         }
 
         int greatestMiddle(Way way) {
-            int greatest = -NOT_NEAR;
+            int greatest = -FAR;
             for (int t = 0; t < way.tenths; t++) {
-                if (leastUp[t] < NOT_NEAR) {
+                if (leastUp[t] < FAR) {
                     greatest = Math.max(greatest, rules.total() * rules.middleAt(t, Way.Y));
                 }
             }

@@ -125,6 +125,10 @@ public final class HillsTest {
         bench.due(23, "around(0, 0) at two bounds", x.around(0, 0), 30);
         bench.due(23, "around(0, 1)", x.around(0, 1), 0);
         bench.due(23, "around(0, 2)", x.around(0, 2), 0);
+        x.put(0, 0, 0, 9, 9);
+        bench.due(23, "around(0, 0) at four bounds", x.around(0, 0), 28);
+        x.way(0, 8, 2);
+        bench.due(23, "around(0, 0) of 8 TENTHS", x.around(0, 0), 128);
     }
 
     /** SMALL CHANGES by which a WAY is too QUICK from a TENTH or to it, or no longer. */
