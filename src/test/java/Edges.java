@@ -23,6 +23,7 @@ abstract class Edges {
     static final String LITHE = "bend 0 18;bend 1 18;bend 2 18;quick 18;pit 2;";
 
     private static Sentences sentences;
+    private static boolean isListing;
     private static String name;
     private static int promise;
     private static String words;
@@ -30,8 +31,9 @@ abstract class Edges {
     private static int tests;
     private static int wrong;
 
-    static void begin(Sentences all) {
+    static void begin(Sentences all, boolean listing) {
         sentences = all;
+        isListing = listing;
     }
 
     static int countTests() {
@@ -80,6 +82,9 @@ abstract class Edges {
     static void says(String quote) {
         words = quote;
         said++;
+        if (isListing) {
+            System.out.println(name + ": " + quote);
+        }
         if (!sentences.mark(promise, quote)) {
             fails("the document has no such words there");
         }

@@ -243,6 +243,20 @@ final class EdgesOfHills extends Edges {
         due("worth", x.worth(0, -1), 10);
     }
 
+    static void p22_by_the_first_and_the_last_small_change() {
+        says("A WAY CLIMBS n SMALL CHANGES");
+        OverABar x = flat("run 20;mark 70;quick 18;", 8);
+        // BENT by 1: SMALL CHANGE 0 (X of PART 0 more) is the first that mends it
+        putX(x, 0, 0, -6, 4);
+        due("climb(0, 1)", x.climb(0, 1), 1);
+        due("X of PART 0", x.at(0, 0, 0, 0), -5);
+        due("X of PART 1", x.at(0, 0, 1, 0), 4);
+        // the pit bears it by SMALL CHANGE 127 alone
+        putY(x, 0, 7, 9, 8, 8, 9);
+        due("climb(0, 1)", x.climb(0, 1), 1);
+        due("Y of PART 3", x.at(0, 7, 3, 1), 8);
+    }
+
     static void p22_bad_changes_nothing() {
         says("BAD.");
         says("what is refused changes nothing");
@@ -288,6 +302,8 @@ final class EdgesOfHills extends Edges {
         x.way(0, 2, 2);
         x.put(0, 0, 0, 9, 0);
         due("X 9", x.around(0, 0), 32 - 1);
+        due("X 9, none greater", x.around(0, 2), 0);
+        due("X 9, none lesser", x.around(0, 1), 0);
         x.put(0, 0, 0, 9, -9);
         due("X 9, Y -9", x.around(0, 0), 32 - 2);
         x.put(0, 1, 3, 8, -8);
@@ -298,6 +314,34 @@ final class EdgesOfHills extends Edges {
         due("all at their bounds", x.around(0, 0), 16);
         due("none lesser", x.around(0, 1), 0);
         due("none greater", x.around(0, 2), 0);
+    }
+
+    static void p23_bounds_of_an_earlier_way_are_gone() {
+        says("SMALL CHANGES that have as great a WORTH as the WAY itself (what 0),");
+        OverABar x = new OverABar();
+        x.way(0, 8, 2);
+        due("around(0, 0) of 8 TENTHS", x.around(0, 0), 128);
+        x.way(1, 2, 2);
+        putX(x, 1, 0, 9);
+        due("around(1, 0) of 2 TENTHS, X 9", x.around(1, 0), 31);
+        due("around(0, 0) of 8 TENTHS again", x.around(0, 0), 128);
+    }
+
+    static void p23_a_change_beside_a_quick_one() {
+        says("SMALL CHANGES that have as great a WORTH as the WAY itself (what 0), a lesser one (1), a greater one (2).");
+        // one number goes from 0 to 6 and 3: as QUICK as may be; the first of a TENTH, then the last
+        for (int p = 0; p < 4; p += 3) {
+            OverABar x = flat("run 20;mark 70;pit 2;", 8);
+            x.put(0, 2, p, p == 0 ? 6 : 0, p == 0 ? 0 : -6);
+            x.put(0, 3, p, p == 0 ? 3 : 0, p == 0 ? 0 : -3);
+            // it is too QUICK by a change in TENTH 1 or TENTH 2
+            due("around(0, 1)", x.around(0, 1), 2);
+            due("around(0, 0)", x.around(0, 0), 126);
+            x.put(0, 2, p, p == 0 ? 7 : 0, p == 0 ? 0 : -7);
+            // it is too QUICK but for a change in TENTH 1 or TENTH 2
+            due("around(0, 2)", x.around(0, 2), 2);
+            due("around(0, 0)", x.around(0, 0), 126);
+        }
     }
 
     static void p23_bad() {
@@ -386,6 +430,20 @@ final class EdgesOfHills extends Edges {
         x.put(1, 1, 3, 0, -1);
         due("TENTH 0 comes first: QUICK", x.valley(0, 1, 0), -1);
         due("TENTH 0 goes first", x.valley(1, 0, 0), 52);
+    }
+
+    static void p24_the_last_number_of_2_to_8_tenths() {
+        says("the least WORTH of all on the way");
+        for (int n = 2; n <= 8; n++) {
+            OverABar x = flat("mark 9;run 18;", n);
+            x.way(1, n, 1);
+            due("WAYS of " + n + " TENTHS that are alike", x.valley(0, 1, 0), 999);
+            x.put(1, n - 1, 3, 0, -1);
+            due("the last number is less", x.valley(0, 1, 0), 999);
+            // the pit does not bear it
+            x.put(1, n - 1, 3, 0, 1);
+            due("the last number is more", x.valley(0, 1, 0), -1);
+        }
     }
 
     static void p24_becomes_at_one_stroke() {

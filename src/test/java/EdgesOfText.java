@@ -549,6 +549,9 @@ final class EdgesOfText extends Edges {
             dueText(" " + name.substring(1) + " 1 1;", -11, NO_TOKEN);
             dueText(" " + name + "s 1 1;", -11, NO_TOKEN);
             dueText(" s" + name + " 1 1;", -11, NO_TOKEN);
+            for (int i = 0; i < name.length(); i++) {
+                dueText(name.substring(0, i) + "x" + name.substring(i + 1) + " 1 1;", -10, NO_TOKEN);
+            }
         }
         dueText("r", -10, NO_TOKEN);
         dueText("weightbend 1 1;", -10, NO_TOKEN);

@@ -1,12 +1,15 @@
 import java.nio.file.Path;
 
-/** Every sentence of the document has a test of its edges; each is run, and none of the words is left out. */
+/**
+ * Every sentence of the document has a test of its edges; each is run, and none
+ * of the words is left out. With the argument list: which test is of which words.
+ */
 public final class EdgesTest {
     private static final Path DOCUMENT = Path.of("../shared/DOC.md");
 
     public static void main(String[] args) throws Exception {
         Sentences sentences = new Sentences(DOCUMENT);
-        Edges.begin(sentences);
+        Edges.begin(sentences, args.length > 0 && args[0].equals("list"));
         Edges.run(EdgesOfText.class);
         Edges.run(EdgesOfWays.class);
         Edges.run(EdgesOfHills.class);
