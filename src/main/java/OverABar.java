@@ -652,12 +652,21 @@ public final class OverABar {
             return lines;
         }
 
+        /** Calls may go eight deep: the NUMBER that is ahead of the value is read here, not one call further down. */
         private void readLine(Tape tape) {
             if (kind != NAME) {
                 fault = STANDS_FAULT;
                 return;
             }
-            int slot = readSlot(tape);
+            int slot = value + RULE_BEHIND_NAME;
+            if (value == WEIGHT) {
+                slot = readNumber(tape, 0, PARTS - 1);
+            } else if (value == BEND) {
+                slot = Rules.BEND + readNumber(tape, 0, PARTS - 2);
+            }
+            if (fault == 0 && (told & (1 << slot)) != 0) {
+                fault = AGAIN_FAULT;
+            }
             if (fault != 0) {
                 return;
             }
@@ -671,20 +680,6 @@ public final class OverABar {
             if (fault == 0 && kind != STOP) {
                 fault = STANDS_FAULT;
             }
-        }
-
-        /** Which rule the line tells, by its NAME, or by NAME and first NUMBER. */
-        private int readSlot(Tape tape) {
-            int slot = value + RULE_BEHIND_NAME;
-            if (value == WEIGHT) {
-                slot = readNumber(tape, 0, PARTS - 1);
-            } else if (value == BEND) {
-                slot = Rules.BEND + readNumber(tape, 0, PARTS - 2);
-            }
-            if (fault == 0 && (told & (1 << slot)) != 0) {
-                fault = AGAIN_FAULT;
-            }
-            return slot;
         }
 
         private int readNumber(Tape tape, int least, int most) {
