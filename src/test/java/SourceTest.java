@@ -23,8 +23,10 @@ import java.util.List;
 import java.util.Map;
 import java.util.Set;
 import javax.lang.model.element.Element;
+import javax.lang.model.element.ElementKind;
 import javax.lang.model.element.ExecutableElement;
 import javax.lang.model.element.Modifier;
+import javax.lang.model.element.VariableElement;
 import javax.lang.model.type.TypeMirror;
 import javax.tools.JavaCompiler;
 import javax.tools.StandardJavaFileManager;
@@ -51,9 +53,8 @@ public final class SourceTest {
         Scan scan = Scan.of(SOURCE);
         rule04_library(scan);
         rule05_static_fields(scan);
-        rule08_recursion(scan);
+        rule06_casts_and_texts(scan);
         rule10_joining_texts(scan);
-        rule06_casts(scan);
         rule11_eight_deep(scan);
         for (String fault : faults) {
             System.out.println(fault);
@@ -84,19 +85,10 @@ public final class SourceTest {
         faults.addAll(scan.statics);
     }
 
-    private static void rule06_casts(Scan scan) {
-        says("a cast only behind the test that makes it safe");
+    private static void rule06_casts_and_texts(Scan scan) {
+        says("casts among your own classes are fine");
+        says("never between two Strings or two Integers");
         faults.addAll(scan.casts);
-    }
-
-    private static void rule08_recursion(Scan scan) {
-        says("Recursion: a private static method that calls itself");
-        // the class needs none, so that nothing has to be guarded
-        for (Element e : scan.calls.keySet()) {
-            if (scan.reaches(e, e, new LinkedHashSet<>())) {
-                faults.add("rule 8: " + name(e) + " calls itself");
-            }
-        }
     }
 
     private static void rule10_joining_texts(Scan scan) {
@@ -104,11 +96,11 @@ public final class SourceTest {
         faults.addAll(scan.joins);
     }
 
-    /** The calls that stand open at once, the document's call the first, the library's the last. */
+    /** The calls that stand open at once, the document's call the first, the library's the last; each counts once. */
     private static void rule11_eight_deep(Scan scan) {
         says("calls that are no recursion go at most eight deep");
         for (Element e : scan.calls.keySet()) {
-            List<Element> chain = scan.deepest(e, 0);
+            List<Element> chain = scan.deepest(e, new LinkedHashSet<>());
             if (chain.size() > MOST_DEEP) {
                 StringBuilder names = new StringBuilder();
                 for (Element link : chain) {
@@ -179,17 +171,15 @@ public final class SourceTest {
         }
 
         private void add(Element caller, Element called) {
-            if (caller == null || !(called instanceof ExecutableElement)) {
-                statics.add("rule 5: a field's initialiser calls " + called);
-                return;
-            }
             // what a constructor does ahead of its own lines is the machine's
-            if (name(called).equals("Object.<init>")) {
+            if (!(called instanceof ExecutableElement) || name(called).equals("Object.<init>")) {
                 return;
             }
-            calls.computeIfAbsent(caller, any -> new LinkedHashSet<>()).add(called);
-            boolean isOwn = called.getEnclosingElement().toString().startsWith("OverABar");
-            if (!isOwn && !called.getSimpleName().contentEquals("<init>")) {
+            // a field's initialiser has no caller
+            if (caller != null) {
+                calls.computeIfAbsent(caller, any -> new LinkedHashSet<>()).add(called);
+            }
+            if (!isOwn(called.getEnclosingElement().asType()) && !called.getSimpleName().contentEquals("<init>")) {
                 library.add(name(called));
             }
         }
@@ -207,20 +197,29 @@ public final class SourceTest {
             return super.visitClass(tree, outer);
         }
 
+        private static boolean isOwn(TypeMirror type) {
+            return type.toString().startsWith("OverABar");
+        }
+
         private void checkStatic(VariableTree v) {
             boolean isFinal = v.getModifiers().getFlags().contains(Modifier.FINAL);
             String type = v.getType().toString();
+            VariableElement e = (VariableElement) trees.getElement(new TreePath(getCurrentPath(), v));
+            boolean isConstant = type.matches("int|long|boolean|char|String") && e.getConstantValue() != null;
             boolean isRow = type.matches("(int|long|char|byte)\\[\\]") && v.getInitializer() != null
                 && v.getInitializer().getKind() == Tree.Kind.NEW_ARRAY;
-            if (!isFinal || !(isRow || type.matches("int|long|boolean|char|String"))) {
+            // rule 12 has values() of an enum kept so
+            boolean isOfEnum = e.getKind() == ElementKind.ENUM_CONSTANT || v.toString().endsWith(".values()");
+            if (!isFinal || !(isConstant || isRow || isOfEnum)) {
                 statics.add("rule 5: " + v);
             }
         }
 
         @Override
         public Void visitTypeCast(TypeCastTree tree, Element caller) {
-            if (!typeOf(tree.getType()).getKind().isPrimitive()) {
-                casts.add("rule 6: a cast that is of no number: " + tree);
+            TypeMirror type = typeOf(tree.getType());
+            if (!type.getKind().isPrimitive() && !isOwn(type)) {
+                casts.add("rule 6: a cast to what is neither a number nor of an own class: " + tree);
             }
             return super.visitTypeCast(tree, caller);
         }
@@ -242,22 +241,17 @@ public final class SourceTest {
                 : typeOf(tree) != null && typeOf(tree).toString().equals("java.lang.String");
         }
 
-        boolean reaches(Element from, Element to, Set<Element> seen) {
-            for (Element next : calls.getOrDefault(from, Set.of())) {
-                if (next.equals(to) || seen.add(next) && reaches(next, to, seen)) {
-                    return true;
+        /** The longest chain of calls that begins with this one, behind those that stand open. */
+        List<Element> deepest(Element first, Set<Element> open) {
+            List<Element> longest = List.of();
+            open.add(first);
+            for (Element next : calls.getOrDefault(first, Set.of())) {
+                if (!open.contains(next)) {
+                    List<Element> chain = deepest(next, open);
+                    longest = chain.size() > longest.size() ? chain : longest;
                 }
             }
-            return false;
-        }
-
-        /** The longest chain of calls that begins with this one; a ring of calls is not followed for ever. */
-        List<Element> deepest(Element first, int depth) {
-            List<Element> longest = List.of();
-            for (Element next : depth > 40 ? Set.<Element>of() : calls.getOrDefault(first, Set.of())) {
-                List<Element> chain = deepest(next, depth + 1);
-                longest = chain.size() > longest.size() ? chain : longest;
-            }
+            open.remove(first);
             List<Element> whole = new ArrayList<>(List.of(first));
             whole.addAll(longest);
             return whole;
